@@ -598,7 +598,6 @@ public final class TreeAgent {
             reply.tellAsked(message);
         }
         if (reply.sizeFor(message) > longest) {
-            reply.clear();
             countOne(TOO_LONG_ERRORS);
             return 0;
         }

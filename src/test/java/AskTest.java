@@ -106,6 +106,8 @@ public final class AskTest {
         get("no column", Ber.NO_OBJECT, 1, 3, 6, 2, 1, 5, 5);
         get("no scalar", Ber.NO_OBJECT, 1, 3, 6, 1, 8, 0);
         get("above all", Ber.NO_OBJECT, 1, 3);
+        get("another first number", Ber.NO_OBJECT, 0, 3, 6, 1, 2, 0);
+        get("another second number", Ber.NO_OBJECT, 1, 2, 6, 1, 2, 0);
         get("an object without access", Ber.NO_OBJECT, 1, 3, 6, 1, 7, 0);
         Desk desk = filled();
         byte[] bad = asked(1, 3, 6, 1, 2);
@@ -221,6 +223,14 @@ public final class AskTest {
         Desk blind = filled();
         blind.view(0, false, 1, 3);
         next("of a blind community", blind, told(Ber.END, 1, 3), 1, 3);
+        Desk last = Desk.usual();
+        for (int i = 1; i <= 16; i++) {
+            last.agent.row(0, i, true);
+        }
+        last.view(0, false, 1, 3, 6, 2, 1, 1);
+        last.view(0, true, 1, 3, 6, 2, 1, 1, 16);
+        next("over 15 hidden rows", last, told(Ber.integer(0), 1, 3, 6, 2, 1, 1, 16), 1, 3, 6, 2, 1, 1);
+        next("from row 1's name", last, told(Ber.text(""), 1, 3, 6, 2, 1, 2, 1), 1, 3, 6, 2, 1, 1, 16);
         Desk half = filled();
         half.view(0, false, 1, 3, 6, 2, 1, 1);
         next("over a hidden column", half, told(Ber.text("two"), 1, 3, 6, 2, 1, 2, 2), 1, 3, 6, 1, 6, 0);
@@ -235,6 +245,8 @@ public final class AskTest {
         Check.due("18: NEXT, version 0, at the end", desk.agent.count(7), 1);
         byte[] hi = told(Ber.text("hi"), 1, 3, 6, 1, 1, 0);
         byte[] end = told(Ber.END, 1, 4);
+        Check.due("16: NEXT with numbers that count for MANY alone",
+                filled().ask(Ber.message(1, "pub", Ber.NEXT, new long[] {7, 1, 9}, good, good)), Ber.answer(1, 0, 0, hi, hi));
         Check.due("16: NEXT, version 1, at the end", filled().ask(Ber.ask(1, Ber.NEXT, good, bad, good)),
                 Ber.answer(1, 0, 0, hi, end, hi));
         Check.due("16: NEXT, version 0", filled().ask(Ber.ask(0, Ber.NEXT, good, good)), Ber.answer(0, 0, 0, hi, hi));
@@ -305,6 +317,14 @@ public final class AskTest {
         many("a first one at the end is told once", 2, 9, new byte[][] {asked(2, 5), asked(2, 5)}, far, far);
         many("at the end at once", 0, 100, new byte[][] {asked(2, 5), asked(2, 5)}, far, far);
         many("at the end in one round", 1, 1, new byte[][] {asked(2, 5), asked(2, 5)}, far, far);
+        many("one at the end at once", 0, 100, new byte[][] {asked(2, 5)}, far);
+        many("one at the end at once, behind a first one", 1, 100, new byte[][] {asked(2, 5), asked(2, 5)}, far, far);
+        many("a first one, then two at the end", 1, 100, new byte[][] {statusTwo, asked(2, 5), asked(2, 5)}, five, far, far);
+        many("three at the end", 0, 100, new byte[][] {asked(2, 5), asked(2, 5), asked(2, 5)}, far, far, far);
+        many("three, one of them not yet", 0, 100, new byte[][] {asked(2, 5), asked(2, 5), statusTwo},
+                far, far, five, far, far, end);
+        many("a first one, then three", 1, 100, new byte[][] {statusTwo, status, asked(2, 5), asked(2, 5)},
+                five, two, far, far, five, far, far, end, far, far);
         many("behind END in the next round", 0, 2, new byte[][] {asked(2, 5), statusTwo}, far, five, far, end);
     }
 

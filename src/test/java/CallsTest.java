@@ -132,8 +132,9 @@ public final class CallsTest {
         Check.due("4: a column's name", desk.scalar(2, 1, 0, 1, 1, 3, 7, 1, 5), -3);
         Check.due("4: above a table", desk.scalar(2, 1, 0, 1, 1, 3, 7), -3);
         Check.due("4: a bad tag comes first", desk.scalar(3, 1, 0, 1, 1, 3, 7), -2);
-        Check.due("4: beside", desk.scalar(2, 1, 0, 1, 1, 3, 6, 2), 2);
-        Check.due("4: beside the table", desk.scalar(2, 1, 0, 1, 1, 3, 7, 0), 3);
+        Check.due("4: another first number", desk.scalar(2, 1, 0, 1, 0, 3, 6, 1), 2);
+        Check.due("4: beside", desk.scalar(2, 1, 0, 1, 1, 3, 6, 2), 3);
+        Check.due("4: beside the table", desk.scalar(2, 1, 0, 1, 1, 3, 7, 0), 4);
         Check.due("5: the name of a scalar", desk.table(1, 3, 6, 2), -3);
         Check.due("5: the name is used up by -3", desk.agent.number(2), 1);
         Check.due("5: below a scalar", desk.table(1, 3, 6, 2, 1), -3);

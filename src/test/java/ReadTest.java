@@ -96,6 +96,7 @@ public final class ReadTest {
         dropped("no octets", 3, Ber.field(48, VERSION, Ber.text(""), rest));
         dropped("40 octets", 3, Ber.field(48, VERSION, Ber.text("x".repeat(40)), rest));
         dropped("41 octets", 1, Ber.field(48, VERSION, Ber.text("x".repeat(41)), rest));
+        dropped("a community longer than the message", 1, Ber.field(48, VERSION, Ber.octets(4, 5, 'n', 'o')));
         dropped("a community as an integer", 1, Ber.field(48, VERSION, ZERO, rest));
         Desk desk = Desk.usual();
         desk.community("", false);
@@ -157,6 +158,11 @@ public final class ReadTest {
         byte[] rest = Ber.join(VERSION, PUB, Ber.field(Ber.GET, SEVEN, ZERO, ZERO, Ber.field(48)));
         dropped("a length of five octets", 1, Ber.longField(48, 5, rest));
         dropped("a length of no octets", 1, Ber.join(Ber.octets(48, 128), rest));
+        byte[] row = Ber.pair(Ber.name(1, 3, 1, 1), Ber.NULL);
+        byte[] rows = Ber.join(row, row, row, row, row, row, row, row, row, row, row, row, row);
+        byte[] body = Ber.join(SEVEN, ZERO, ZERO, Ber.field(48, rows));
+        Check.due("a body that has 128 octets", body.length, 128);
+        dropped("a length of 128 octets in one octet", 1, toPub(Ber.octets(160, 128), body));
         dropped("a length of 2^32 - 1", 1, Ber.join(Ber.octets(48, 132, 255, 255, 255, 255), rest));
         dropped("a length of 2^31 + n", 1, Ber.join(Ber.octets(48, 132, 128, 0, 0, rest.length), rest));
         dropped("a length of 255 octets", 1, Ber.join(Ber.octets(48, 255), rest));
@@ -215,6 +221,7 @@ public final class ReadTest {
         valueIsBad("nothing with an octet", Ber.field(5, Ber.octets(0)));
         valueIsRead("an address", Ber.address(192, 168, 0, 255), Ber.address(192, 168, 0, 255));
         valueIsRead("an address of 0", Ber.address(0, 0, 0, 0), Ber.address(0, 0, 0, 0));
+        valueIsBad("an address of 0 octets", Ber.field(64));
         valueIsBad("an address of 3", Ber.field(64, Ber.octets(1, 2, 3)));
         valueIsBad("an address of 5", Ber.field(64, Ber.octets(1, 2, 3, 4, 5)));
         for (int tag : new int[] {0, 1, 3, 7, 48, 63, 68, 69, 71, 128, 129, 130, 255}) {
@@ -231,6 +238,8 @@ public final class ReadTest {
         valueIsBad("a name of no octets", Ber.field(6));
         valueIsBad("a name of 120", Ber.field(6, Ber.octets(120)));
         valueIsRead("a name of 119", Ber.field(6, Ber.octets(119)), Ber.name(2, 39));
+        valueIsBad("a name of 120 and more", Ber.field(6, Ber.octets(120, 43, 6)));
+        valueIsBad("a name of 129 1 and more", Ber.field(6, Ber.octets(129, 1, 43, 6)));
         valueIsBad("a name of 129 1", Ber.field(6, Ber.octets(129, 1)));
         valueIsBad("a number that begins with 128", Ber.field(6, Ber.octets(43, 128, 1)));
         valueIsBad("the first that begins with 128", Ber.field(6, Ber.octets(128, 43)));

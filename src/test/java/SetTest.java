@@ -236,6 +236,9 @@ public final class SetTest {
         refused("a status' 0", 11, 1, status(0, 4));
         refused("a status' 2^32 - 1", 11, 1, status(MOST, 4));
         refused("a status' 7.7", 11, 1, pair(Ber.integer(4), 1, 3, 6, 2, 1, 4, 7, 7));
+        TreeAgent one = done("a status' 1", withRows(), number(1, 9), status(1, 5)).agent;
+        Check.due("20: the least index", one.told(Desk.COLUMN_STATUS, 1), 2);
+        Check.due("20: its value", one.told(Desk.COLUMN_INTEGER, 1), 9);
         TreeAgent x = done("a status' 2^31 - 1", withRows(), status(2147483647L, 4)).agent;
         Check.due("20: the greatest index", x.told(Desk.COLUMN_STATUS, 2147483647), 1);
     }
