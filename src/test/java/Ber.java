@@ -45,6 +45,17 @@ final class Ber {
         return all;
     }
 
+    /** Octets written as pairs of hexadecimal digits. */
+    static byte[] hex(String digits) {
+        return java.util.HexFormat.of().parseHex(digits.replace(" ", ""));
+    }
+
+    static byte[][] times(int n, byte[] pair) {
+        byte[][] all = new byte[n][];
+        java.util.Arrays.fill(all, pair);
+        return all;
+    }
+
     static byte[] field(int tag, byte[]... parts) {
         byte[] content = join(parts);
         int n = content.length;

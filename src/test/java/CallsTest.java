@@ -25,6 +25,15 @@ public final class CallsTest {
         counts();
         tellings();
         parts();
+        octetsOfEachFeed();
+        tapesUpTo1200();
+        leastAndMost();
+        lastNumbers();
+        valuesOfEachTag();
+        textsUpTo40();
+        namesUpTo16();
+        ticksUpTo2To62();
+        octetsOfTheAnswer();
         Check.finish();
     }
 
@@ -507,5 +516,161 @@ public final class CallsTest {
         Check.due("21: an address", x.part(Desk.SCALAR_ADDRESS, 0, 0), -1);
         Check.due("21: object -1", x.part(-1, 0, 0), -1);
         Check.due("21: object 11", x.part(11, 0, 0), -1);
+    }
+
+    /** "The n lowest octets of v, the highest first": each n, of a v whose octets differ. */
+    private static void octetsOfEachFeed() {
+        for (int n = 1; n <= 8; n++) {
+            Desk desk = Desk.usual();
+            Check.due("2: feed of " + n, desk.agent.feed(0xF1E2D3C4B5A69788L, n), n);
+            Check.due("10: a text of " + n, desk.agent.text(Desk.SCALAR_TEXT, 0), n);
+            int[] octets = {0xF1, 0xE2, 0xD3, 0xC4, 0xB5, 0xA6, 0x97, 0x88};
+            for (int i = 0; i < n; i++) {
+                Check.due("21: octet " + i + " of " + n, desk.agent.part(Desk.SCALAR_TEXT, 0, i), octets[8 - n + i]);
+            }
+        }
+    }
+
+    /** "-4 it would have more than 1200": each n, up to it and over it by one. */
+    private static void tapesUpTo1200() {
+        for (int n = 1; n <= 8; n++) {
+            Desk desk = new Desk();
+            desk.feed(new byte[1200 - n]);
+            Check.due("2: 1200 by " + n, desk.agent.feed(-1, n), 1200);
+            Check.due("2: 1201", desk.agent.feed(-1, 1), -4);
+            Check.due("2: it is emptied", desk.agent.feed(-1, 0), 0);
+            desk.feed(new byte[1201 - n]);
+            Check.due("2: 1201 by " + n, desk.agent.feed(-1, n), -4);
+            Check.due("2: 1200 by one less", n == 1 ? 1200 : desk.agent.feed(-1, n - 1), 1200);
+        }
+    }
+
+    /** "least is above most": not the same, and not of column(), which names the tag and the access alone. */
+    private static void leastAndMost() {
+        Desk desk = new Desk();
+        Check.due("4: the same", desk.scalar(2, 1, 7, 7, 1, 3, 1), 0);
+        Check.due("4: one above", desk.scalar(2, 1, 8, 7, 1, 3, 2), -2);
+        Check.due("4: the whole range", desk.scalar(2, 1, Long.MIN_VALUE, Long.MAX_VALUE, 1, 3, 2), 1);
+        Check.due("4: turned round", desk.scalar(2, 1, Long.MAX_VALUE, Long.MIN_VALUE, 1, 3, 3), -2);
+        Check.due("4: both the least", desk.scalar(2, 1, Long.MIN_VALUE, Long.MIN_VALUE, 1, 3, 3), 2);
+        Check.due("4: both the most", desk.scalar(2, 1, Long.MAX_VALUE, Long.MAX_VALUE, 1, 3, 4), 3);
+        desk.table(1, 4);
+        Check.due("6: one above", desk.agent.column(0, 1, 2, 1, 8, 7), 4);
+    }
+
+    /** "the last number is not 1 .. 2^31 - 1": of column() and status(). */
+    private static void lastNumbers() {
+        for (int last : new int[] {Integer.MIN_VALUE, -1, 0, 1, 2147483647}) {
+            Desk desk = new Desk();
+            desk.table(1, 3);
+            desk.table(1, 4);
+            Check.due("6: last " + last, desk.agent.column(0, last, 2, 1, 0, 0), last < 1 ? -2 : 0);
+            Check.due("7: last " + last, desk.agent.status(1, last), last < 1 ? -2 : 1);
+            Check.due("8: index " + last, desk.agent.row(0, last, true), last < 1 ? -2 : 1);
+            Check.due("8: index " + last + " again", desk.agent.row(0, last, true), last < 1 ? -2 : 0);
+            Check.due("8: index " + last + " away", desk.agent.row(0, last, false), last < 1 ? -2 : 1);
+            Check.due("8: index " + last + " away again", desk.agent.row(0, last, false), last < 1 ? -2 : 0);
+        }
+    }
+
+    /** "-2 an INTEGER that is not one; of 65 .. 67 one that is not 0 .. 2^32 - 1. (Bounds do not count.)" */
+    private static void valuesOfEachTag() {
+        long[] values = {Long.MIN_VALUE, -4294967297L, -2147483649L, -2147483648L, -1, 0, 1, 2147483647L, 2147483648L, MOST,
+            MOST + 1, Long.MAX_VALUE};
+        for (int tag : new int[] {2, 64, 65, 66, 67, 70}) {
+            Desk desk = new Desk();
+            desk.scalar(tag, 2, 5, 5, 1, 3);
+            desk.table(1, 4);
+            desk.agent.column(0, 1, tag, 2, 5, 5);
+            desk.agent.row(0, 3, true);
+            for (long v : values) {
+                boolean good = tag == 64 || tag == 70 || (tag == 2 ? v == (int) v : v >= 0 && v <= MOST);
+                for (int object = 0; object < 2; object++) {
+                    int index = 3 * object;
+                    long before = desk.agent.told(object, index);
+                    Check.due("9: " + v + " of " + tag, desk.agent.value(object, index, v), good ? 1 : -2);
+                    long now = tag == 64 ? v & MOST : good ? v : before;
+                    Check.due("20: " + v + " of " + tag, desk.agent.told(object, index), now);
+                }
+            }
+        }
+    }
+
+    /** "-2 there are more than 40": of text() and of community(). */
+    private static void textsUpTo40() {
+        for (int octets : new int[] {0, 1, 39, 40, 41, 128, 1200}) {
+            Desk desk = Desk.usual();
+            boolean good = octets <= 40;
+            desk.feed(new byte[octets]);
+            Check.due("10: a text of " + octets, desk.agent.text(Desk.SCALAR_TEXT, 0), good ? octets : -2);
+            Check.due("20: a text of " + octets, desk.agent.told(Desk.SCALAR_TEXT, 0), good ? octets : 0);
+            Check.due("21: its last octet", desk.agent.part(Desk.SCALAR_TEXT, 0, octets - 1), good && octets > 0 ? 0 : -1);
+            Check.due("21: behind it", desk.agent.part(Desk.SCALAR_TEXT, 0, octets), -1);
+            desk.feed(new byte[octets]);
+            Check.due("12: a community of " + octets, desk.agent.community(true), good ? 2 : -2);
+            Check.due("18: communities", desk.agent.count(8), good ? 3 : 2);
+        }
+    }
+
+    /** Each length of a NAME at hand, for the calls that use it up: 2 .. 15, 2 .. 14, 2 .. 16 and 2 .. 16 numbers. */
+    private static void namesUpTo16() {
+        for (int n = 0; n <= 16; n++) {
+            long[] name = new long[n];
+            java.util.Arrays.fill(name, 2);
+            Check.due("4: a name of " + n, new Desk().scalar(2, 1, 0, 0, name), n >= 2 && n <= 15 ? 0 : -2);
+            Check.due("5: a name of " + n, new Desk().table(name), n >= 2 && n <= 14 ? 0 : -2);
+            Desk desk = Desk.usual();
+            Check.due("11: a name of " + n, desk.identity(Desk.SCALAR_NAME, 0, name), n >= 2 ? n : -2);
+            Check.due("20: a name of " + n, desk.agent.told(Desk.SCALAR_NAME, 0), n >= 2 ? n : 2);
+            Check.due("21: its last number", desk.agent.part(Desk.SCALAR_NAME, 0, n - 1), n >= 2 ? 2 : n == 0 ? -1 : 0);
+            Check.due("21: behind it", desk.agent.part(Desk.SCALAR_NAME, 0, n), n >= 2 ? -1 : 0);
+            Check.due("13: a name of " + n, desk.view(0, true, name), n >= 2 ? 1 : -2);
+        }
+        Desk longest = Desk.usual();
+        longest.scalar(2, 1, 0, 0, 1, 9, 1, 1, 1, 1, 1, 1, 1, 1, 1, 1, 1, 1, 1);
+        longest.table(1, 8, 1, 1, 1, 1, 1, 1, 1, 1, 1, 1, 1, 1);
+        Check.due("6: a column of the longest table", longest.agent.column(1, 2147483647, 2, 1, 0, 0), 12);
+        longest.agent.row(1, 2147483647, true);
+        long[] instance = {1, 8, 1, 1, 1, 1, 1, 1, 1, 1, 1, 1, 1, 1, 2147483647, 2147483647};
+        long[] scalar = {1, 9, 1, 1, 1, 1, 1, 1, 1, 1, 1, 1, 1, 1, 1, 0};
+        byte[] next = Ber.ask(1, Ber.NEXT, Ber.pair(Ber.name(1, 8), Ber.NULL), Ber.pair(Ber.name(1, 9), Ber.NULL));
+        Check.due("16: the longest names of instances", longest.ask(next), Ber.answer(1, 0, 0,
+                Ber.pair(Ber.name(instance), Ber.integer(0)), Ber.pair(Ber.name(scalar), Ber.integer(0))));
+    }
+
+    /** "-2 n is below 0, or it would be above 2^62": at once, and step by step. */
+    private static void ticksUpTo2To62() {
+        long most = 1L << 62;
+        for (long first : new long[] {0, 1, most - 1, most}) {
+            TreeAgent x = new TreeAgent();
+            Check.due("15: by " + first, x.tick(first), first);
+            Check.due("15: by one too many", x.tick(most - first + 1), -2);
+            Check.due("15: by the most", x.tick(Long.MAX_VALUE), -2);
+            Check.due("15: by -1", x.tick(-1), -2);
+            Check.due("15: it stays", x.tick(0), first);
+            Check.due("15: up to 2^62", x.tick(most - first), most);
+            Check.due("15: it stays at 2^62", x.tick(0), most);
+            Check.due("15: one more", x.tick(1), -2);
+        }
+        TreeAgent one = new TreeAgent();
+        Check.due("15: 2^62 + 1 at once", one.tick(most + 1), -2);
+        Check.due("15: 2^63 - 1 at once", one.tick(Long.MAX_VALUE), -2);
+        Check.due("15: nothing has gone on", one.tick(0), 0);
+    }
+
+    /** "Octet i of the latest answer. -1 there is none": of an answer, a shorter one behind it, and a dropped one. */
+    private static void octetsOfTheAnswer() {
+        Desk desk = Desk.usual();
+        int size = desk.feed(Ber.ask(1, Ber.GET, Ber.pair(Ber.name(1, 3), Ber.NULL))).agent.question();
+        Check.due("17: the last octet is 0 octets of NO OBJECT", desk.agent.answer(size - 1), 0);
+        Check.due("17: behind it", desk.agent.answer(size), -1);
+        int shorter = desk.feed(Ber.ask(1, Ber.GET)).agent.question();
+        Check.due("17: the last octet of a shorter one", desk.agent.answer(shorter - 1), 0);
+        Check.due("17: behind the shorter one", desk.agent.answer(shorter), -1);
+        Check.due("17: where the longer one was", desk.agent.answer(size - 1), -1);
+        Check.due("16: dropped", desk.agent.question(), 0);
+        for (int i : new int[] {Integer.MIN_VALUE, -1, 0, 1, shorter - 1, 999, 1000, Integer.MAX_VALUE}) {
+            Check.due("17: octet " + i + " of none", desk.agent.answer(i), -1);
+        }
     }
 }

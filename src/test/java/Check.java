@@ -15,6 +15,13 @@ final class Check {
         }
     }
 
+    static void due(String what, String got, String want) {
+        made++;
+        if (!want.equals(got)) {
+            tellWrong(what + " answered " + got + ", due is " + want);
+        }
+    }
+
     static void due(String what, byte[] got, byte[] want) {
         made++;
         if (!Arrays.equals(got, want)) {

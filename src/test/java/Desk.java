@@ -102,4 +102,21 @@ final class Desk {
         Check.due("the octet behind the answer", agent.answer(size), -1);
         return octets;
     }
+
+    /** A question to the usual tree that has to be dropped, and counted so. */
+    static void dropped(String what, int cause, byte[] question) {
+        Desk desk = usual();
+        Check.due("16: " + what, desk.ask(question), (byte[]) null);
+        for (int i = 1; i <= 7; i++) {
+            Check.due("18: " + what + ", count(" + i + ")", desk.agent.count(i), i == cause ? 1 : 0);
+        }
+    }
+
+    /** A question to the usual tree that has to be answered so. */
+    static void answered(String what, byte[] question, byte[] answer) {
+        Desk desk = usual();
+        Check.due("16: " + what, desk.ask(question), answer);
+        Check.due("18: " + what + ", malformed", desk.agent.count(1), 0);
+        Check.due("18: " + what + ", given", desk.agent.count(6), 1);
+    }
 }

@@ -22,21 +22,6 @@ public final class ReadTest {
         Check.finish();
     }
 
-    private static void dropped(String what, int cause, byte[] question) {
-        Desk desk = Desk.usual();
-        Check.due("16: " + what, desk.ask(question), (byte[]) null);
-        for (int i = 1; i <= 7; i++) {
-            Check.due("18: " + what + ", count(" + i + ")", desk.agent.count(i), i == cause ? 1 : 0);
-        }
-    }
-
-    private static void answered(String what, byte[] question, byte[] answer) {
-        Desk desk = Desk.usual();
-        Check.due("16: " + what, desk.ask(question), answer);
-        Check.due("18: " + what + ", malformed", desk.agent.count(1), 0);
-        Check.due("18: " + what + ", given", desk.agent.count(6), 1);
-    }
-
     /** A message of VERSION 1 to "pub" with what is behind these. */
     private static byte[] toPub(byte[]... rest) {
         return Ber.field(Ber.ROW, VERSION, PUB, Ber.join(rest));
@@ -49,55 +34,55 @@ public final class ReadTest {
     /** A SET of one row, whose answer has to show the row as it was understood; without such an object it is ERROR 17. */
     private static void valueIsRead(String what, byte[] given, byte[] shortest) {
         byte[] name = Ber.name(1, 3, 9);
-        answered(what, Ber.ask(1, Ber.SET, Ber.pair(name, given)), Ber.answer(1, 17, 1, Ber.pair(name, shortest)));
+        Desk.answered(what, Ber.ask(1, Ber.SET, Ber.pair(name, given)), Ber.answer(1, 17, 1, Ber.pair(name, shortest)));
     }
 
     private static void valueIsBad(String what, byte[] given) {
-        dropped(what, 1, Ber.ask(1, Ber.GET, Ber.pair(NAME, given)));
+        Desk.dropped(what, 1, Ber.ask(1, Ber.GET, Ber.pair(NAME, given)));
     }
 
     private static void outerFields() {
         byte[] good = Ber.ask(1, Ber.GET);
-        dropped("an empty tape", 1, Ber.octets());
-        dropped("a tag alone", 1, Ber.octets(48));
-        dropped("an empty row", 1, Ber.octets(48, 0));
-        dropped("another outer tag", 1, Ber.join(Ber.octets(49), java.util.Arrays.copyOfRange(good, 1, good.length)));
-        dropped("an octet behind it", 1, Ber.join(good, Ber.octets(0)));
+        Desk.dropped("an empty tape", 1, Ber.octets());
+        Desk.dropped("a tag alone", 1, Ber.octets(48));
+        Desk.dropped("an empty row", 1, Ber.octets(48, 0));
+        Desk.dropped("another outer tag", 1, Ber.join(Ber.octets(49), java.util.Arrays.copyOfRange(good, 1, good.length)));
+        Desk.dropped("an octet behind it", 1, Ber.join(good, Ber.octets(0)));
         for (int n = 0; n < good.length; n++) {
-            dropped("the first " + n + " octets", 1, java.util.Arrays.copyOf(good, n));
+            Desk.dropped("the first " + n + " octets", 1, java.util.Arrays.copyOf(good, n));
         }
-        dropped("something behind the question", 1, toPub(Ber.field(Ber.GET, SEVEN, ZERO, ZERO, Ber.field(48)), ZERO));
-        dropped("something behind the rows", 1, toPub(Ber.field(Ber.GET, SEVEN, ZERO, ZERO, Ber.field(48), ZERO)));
-        dropped("no rows", 1, toPub(Ber.field(Ber.GET, SEVEN, ZERO, ZERO)));
-        dropped("no t", 1, toPub(Ber.field(Ber.GET, SEVEN, ZERO, Ber.field(48))));
-        dropped("another tag than the rows'", 1, toPub(Ber.field(Ber.GET, SEVEN, ZERO, ZERO, Ber.field(49))));
-        answered("nothing asked", good, Ber.answer(1, 0, 0));
+        Desk.dropped("something behind the question", 1, toPub(Ber.field(Ber.GET, SEVEN, ZERO, ZERO, Ber.field(48)), ZERO));
+        Desk.dropped("something behind the rows", 1, toPub(Ber.field(Ber.GET, SEVEN, ZERO, ZERO, Ber.field(48), ZERO)));
+        Desk.dropped("no rows", 1, toPub(Ber.field(Ber.GET, SEVEN, ZERO, ZERO)));
+        Desk.dropped("no t", 1, toPub(Ber.field(Ber.GET, SEVEN, ZERO, Ber.field(48))));
+        Desk.dropped("another tag than the rows'", 1, toPub(Ber.field(Ber.GET, SEVEN, ZERO, ZERO, Ber.field(49))));
+        Desk.answered("nothing asked", good, Ber.answer(1, 0, 0));
     }
 
     private static void versions() {
         byte[] rest = Ber.join(PUB, Ber.field(Ber.GET, SEVEN, ZERO, ZERO, Ber.field(48)));
-        dropped("version 2", 2, Ber.field(48, Ber.integer(2), rest));
-        dropped("version -1", 2, Ber.field(48, Ber.integer(-1), rest));
-        dropped("version 2^31 - 1", 2, Ber.field(48, Ber.integer(2147483647L), rest));
-        dropped("version 2^31", 1, Ber.field(48, Ber.integer(2147483648L), rest));
-        dropped("version 2^32", 1, Ber.field(48, Ber.integer(4294967296L), rest));
-        dropped("version without octets", 1, Ber.field(48, Ber.field(2), rest));
-        dropped("version as a gauge", 1, Ber.field(48, Ber.number(66, 1), rest));
-        answered("version 1 in nine octets", Ber.field(48, Ber.field(2, Ber.octets(0, 0, 0, 0, 0, 0, 0, 0, 1)), rest),
+        Desk.dropped("version 2", 2, Ber.field(48, Ber.integer(2), rest));
+        Desk.dropped("version -1", 2, Ber.field(48, Ber.integer(-1), rest));
+        Desk.dropped("version 2^31 - 1", 2, Ber.field(48, Ber.integer(2147483647L), rest));
+        Desk.dropped("version 2^31", 1, Ber.field(48, Ber.integer(2147483648L), rest));
+        Desk.dropped("version 2^32", 1, Ber.field(48, Ber.integer(4294967296L), rest));
+        Desk.dropped("version without octets", 1, Ber.field(48, Ber.field(2), rest));
+        Desk.dropped("version as a gauge", 1, Ber.field(48, Ber.number(66, 1), rest));
+        Desk.answered("version 1 in nine octets", Ber.field(48, Ber.field(2, Ber.octets(0, 0, 0, 0, 0, 0, 0, 0, 1)), rest),
                 Ber.answer(1, 0, 0));
-        answered("version 0", Ber.ask(0, Ber.GET), Ber.answer(0, 0, 0));
+        Desk.answered("version 0", Ber.ask(0, Ber.GET), Ber.answer(0, 0, 0));
     }
 
     private static void communities() {
         byte[] rest = Ber.field(Ber.GET, SEVEN, ZERO, ZERO, Ber.field(48));
-        dropped("another community", 3, Ber.field(48, VERSION, Ber.text("pug"), rest));
-        dropped("a begin of a community", 3, Ber.field(48, VERSION, Ber.text("pu"), rest));
-        dropped("a community and more", 3, Ber.field(48, VERSION, Ber.text("pubs"), rest));
-        dropped("no octets", 3, Ber.field(48, VERSION, Ber.text(""), rest));
-        dropped("40 octets", 3, Ber.field(48, VERSION, Ber.text("x".repeat(40)), rest));
-        dropped("41 octets", 1, Ber.field(48, VERSION, Ber.text("x".repeat(41)), rest));
-        dropped("a community longer than the message", 1, Ber.field(48, VERSION, Ber.octets(4, 5, 'n', 'o')));
-        dropped("a community as an integer", 1, Ber.field(48, VERSION, ZERO, rest));
+        Desk.dropped("another community", 3, Ber.field(48, VERSION, Ber.text("pug"), rest));
+        Desk.dropped("a begin of a community", 3, Ber.field(48, VERSION, Ber.text("pu"), rest));
+        Desk.dropped("a community and more", 3, Ber.field(48, VERSION, Ber.text("pubs"), rest));
+        Desk.dropped("no octets", 3, Ber.field(48, VERSION, Ber.text(""), rest));
+        Desk.dropped("40 octets", 3, Ber.field(48, VERSION, Ber.text("x".repeat(40)), rest));
+        Desk.dropped("41 octets", 1, Ber.field(48, VERSION, Ber.text("x".repeat(41)), rest));
+        Desk.dropped("a community longer than the message", 1, Ber.field(48, VERSION, Ber.octets(4, 5, 'n', 'o')));
+        Desk.dropped("a community as an integer", 1, Ber.field(48, VERSION, ZERO, rest));
         Desk desk = Desk.usual();
         desk.community("", false);
         byte[] none = Ber.message(1, "", Ber.GET, new long[] {7, 0, 0});
@@ -106,25 +91,25 @@ public final class ReadTest {
 
     private static void kinds() {
         for (int kind : new int[] {159, 162, 164, 166, 48, 2}) {
-            dropped("kind " + kind, 1, Ber.ask(1, kind));
+            Desk.dropped("kind " + kind, 1, Ber.ask(1, kind));
         }
-        dropped("many in version 0", 1, Ber.ask(0, Ber.MANY));
-        dropped("many in version 0 to no community", 3, Ber.message(0, "no", Ber.MANY, new long[] {7, 0, 0}));
-        answered("get", Ber.ask(1, Ber.GET), Ber.answer(1, 0, 0));
-        answered("next", Ber.ask(0, Ber.NEXT), Ber.answer(0, 0, 0));
-        answered("set", Ber.ask(0, Ber.SET), Ber.answer(0, 0, 0));
-        answered("many", Ber.ask(1, Ber.MANY), Ber.answer(1, 0, 0));
+        Desk.dropped("many in version 0", 1, Ber.ask(0, Ber.MANY));
+        Desk.dropped("many in version 0 to no community", 3, Ber.message(0, "no", Ber.MANY, new long[] {7, 0, 0}));
+        Desk.answered("get", Ber.ask(1, Ber.GET), Ber.answer(1, 0, 0));
+        Desk.answered("next", Ber.ask(0, Ber.NEXT), Ber.answer(0, 0, 0));
+        Desk.answered("set", Ber.ask(0, Ber.SET), Ber.answer(0, 0, 0));
+        Desk.answered("many", Ber.ask(1, Ber.MANY), Ber.answer(1, 0, 0));
     }
 
     private static void headNumbers() {
         for (long id : new long[] {0, 127, 128, 255, 32767, 32768, 2147483647L, -1, -128, -129, -2147483648L}) {
-            answered("id " + id, Ber.message(1, "pub", Ber.GET, new long[] {id, -5, 9}),
+            Desk.answered("id " + id, Ber.message(1, "pub", Ber.GET, new long[] {id, -5, 9}),
                     Ber.message(1, "pub", Ber.ANSWER, new long[] {id, 0, 0}));
         }
-        dropped("id 2^31", 1, Ber.message(1, "pub", Ber.GET, new long[] {2147483648L, 0, 0}));
-        dropped("s below", 1, Ber.message(1, "pub", Ber.GET, new long[] {7, -2147483649L, 0}));
-        dropped("t above", 1, Ber.message(1, "pub", Ber.GET, new long[] {7, 0, 2147483648L}));
-        dropped("t as a text", 1, toPub(Ber.field(Ber.GET, SEVEN, ZERO, Ber.text("a"), Ber.field(48))));
+        Desk.dropped("id 2^31", 1, Ber.message(1, "pub", Ber.GET, new long[] {2147483648L, 0, 0}));
+        Desk.dropped("s below", 1, Ber.message(1, "pub", Ber.GET, new long[] {7, -2147483649L, 0}));
+        Desk.dropped("t above", 1, Ber.message(1, "pub", Ber.GET, new long[] {7, 0, 2147483648L}));
+        Desk.dropped("t as a text", 1, toPub(Ber.field(Ber.GET, SEVEN, ZERO, Ber.text("a"), Ber.field(48))));
     }
 
     private static void rows() {
@@ -133,18 +118,18 @@ public final class ReadTest {
         java.util.Arrays.fill(twenty, row);
         byte[][] told = new byte[20][];
         java.util.Arrays.fill(told, Ber.pair(Ber.name(1, 3), Ber.NO_OBJECT));
-        answered("20 rows", Ber.ask(1, Ber.GET, twenty), Ber.answer(1, 0, 0, told));
-        dropped("21 rows", 1, getOf(Ber.field(48, Ber.join(twenty), row)));
-        dropped("a row with another tag", 1, getOf(Ber.field(48, Ber.field(49, NAME, Ber.NULL))));
-        dropped("a row without a value", 1, getOf(Ber.field(48, Ber.field(48, NAME))));
-        dropped("an empty row", 1, getOf(Ber.field(48, Ber.field(48))));
-        dropped("a row with two values", 1, getOf(Ber.field(48, Ber.field(48, NAME, Ber.NULL, Ber.NULL))));
-        dropped("a row that begins with its value", 1, getOf(Ber.field(48, Ber.field(48, Ber.NULL, NAME))));
-        dropped("a name longer than its row", 1, getOf(Ber.field(48, Ber.octets(48, 4, 6, 4, 43, 6, 1, 1), Ber.NULL)));
-        dropped("a value longer than its row", 1,
+        Desk.answered("20 rows", Ber.ask(1, Ber.GET, twenty), Ber.answer(1, 0, 0, told));
+        Desk.dropped("21 rows", 1, getOf(Ber.field(48, Ber.join(twenty), row)));
+        Desk.dropped("a row with another tag", 1, getOf(Ber.field(48, Ber.field(49, NAME, Ber.NULL))));
+        Desk.dropped("a row without a value", 1, getOf(Ber.field(48, Ber.field(48, NAME))));
+        Desk.dropped("an empty row", 1, getOf(Ber.field(48, Ber.field(48))));
+        Desk.dropped("a row with two values", 1, getOf(Ber.field(48, Ber.field(48, NAME, Ber.NULL, Ber.NULL))));
+        Desk.dropped("a row that begins with its value", 1, getOf(Ber.field(48, Ber.field(48, Ber.NULL, NAME))));
+        Desk.dropped("a name longer than its row", 1, getOf(Ber.field(48, Ber.octets(48, 4, 6, 4, 43, 6, 1, 1), Ber.NULL)));
+        Desk.dropped("a value longer than its row", 1,
                 getOf(Ber.field(48, Ber.octets(48, 6, 6, 1, 43, 4, 2, 1), Ber.octets(1), row)));
-        dropped("a value's length outside of its row", 1, getOf(Ber.field(48, Ber.octets(48, 4, 6, 1, 43, 5), Ber.octets(0))));
-        dropped("a length cut by its row", 1, getOf(Ber.field(48, Ber.octets(48, 5, 6, 1, 43, 5, 129), Ber.octets(0))));
+        Desk.dropped("a value's length outside of its row", 1, getOf(Ber.field(48, Ber.octets(48, 4, 6, 1, 43, 5), Ber.octets(0))));
+        Desk.dropped("a length cut by its row", 1, getOf(Ber.field(48, Ber.octets(48, 5, 6, 1, 43, 5, 129), Ber.octets(0))));
     }
 
     private static void lengths() {
@@ -153,22 +138,22 @@ public final class ReadTest {
             byte[] pair = Ber.longField(48, n, Ber.longField(6, n, Ber.octets(43, 6, 1, 2, 0)), Ber.longField(5, n));
             byte[] body = Ber.longField(160, n, Ber.longField(2, n, Ber.octets(7)), ZERO, ZERO, Ber.longField(48, n, pair));
             byte[] text = Ber.longField(4, n, Ber.chars("pub"));
-            answered("lengths in " + n + " octets", Ber.longField(48, n, VERSION, text, body), answer);
+            Desk.answered("lengths in " + n + " octets", Ber.longField(48, n, VERSION, text, body), answer);
         }
         byte[] rest = Ber.join(VERSION, PUB, Ber.field(Ber.GET, SEVEN, ZERO, ZERO, Ber.field(48)));
-        dropped("a length of five octets", 1, Ber.longField(48, 5, rest));
-        dropped("a length of no octets", 1, Ber.join(Ber.octets(48, 128), rest));
+        Desk.dropped("a length of five octets", 1, Ber.longField(48, 5, rest));
+        Desk.dropped("a length of no octets", 1, Ber.join(Ber.octets(48, 128), rest));
         byte[] row = Ber.pair(Ber.name(1, 3, 1, 1), Ber.NULL);
         byte[] rows = Ber.join(row, row, row, row, row, row, row, row, row, row, row, row, row);
         byte[] body = Ber.join(SEVEN, ZERO, ZERO, Ber.field(48, rows));
         Check.due("a body that has 128 octets", body.length, 128);
-        dropped("a length of 128 octets in one octet", 1, toPub(Ber.octets(160, 128), body));
-        dropped("a length of 2^32 - 1", 1, Ber.join(Ber.octets(48, 132, 255, 255, 255, 255), rest));
-        dropped("a length of 2^31 + n", 1, Ber.join(Ber.octets(48, 132, 128, 0, 0, rest.length), rest));
-        dropped("a length of 255 octets", 1, Ber.join(Ber.octets(48, 255), rest));
-        dropped("a length too short", 1, Ber.join(Ber.octets(48, rest.length - 1), rest));
-        dropped("a length too long", 1, Ber.join(Ber.octets(48, rest.length + 1), rest));
-        dropped("an inner length of 2^32 - 1", 1, Ber.field(48, VERSION, Ber.octets(4, 132, 255, 255, 255, 255)));
+        Desk.dropped("a length of 128 octets in one octet", 1, toPub(Ber.octets(160, 128), body));
+        Desk.dropped("a length of 2^32 - 1", 1, Ber.join(Ber.octets(48, 132, 255, 255, 255, 255), rest));
+        Desk.dropped("a length of 2^31 + n", 1, Ber.join(Ber.octets(48, 132, 128, 0, 0, rest.length), rest));
+        Desk.dropped("a length of 255 octets", 1, Ber.join(Ber.octets(48, 255), rest));
+        Desk.dropped("a length too short", 1, Ber.join(Ber.octets(48, rest.length - 1), rest));
+        Desk.dropped("a length too long", 1, Ber.join(Ber.octets(48, rest.length + 1), rest));
+        Desk.dropped("an inner length of 2^32 - 1", 1, Ber.field(48, VERSION, Ber.octets(4, 132, 255, 255, 255, 255)));
     }
 
     private static void numberValues() {
@@ -249,22 +234,22 @@ public final class ReadTest {
         valueIsBad("twelve octets", Ber.field(6, Ber.octets(43, 129, 128, 128, 128, 128, 128, 128, 128, 128, 128, 128, 0)));
         valueIsRead("128 within a number", Ber.field(6, Ber.octets(43, 129, 128, 0)), Ber.name(1, 3, 16384));
         byte[] badName = Ber.field(6, Ber.octets(43, 128, 1));
-        dropped("a bad name", 1, Ber.ask(1, Ber.GET, Ber.pair(badName, Ber.NULL)));
-        dropped("a name of 17", 1, Ber.ask(1, Ber.GET,
+        Desk.dropped("a bad name", 1, Ber.ask(1, Ber.GET, Ber.pair(badName, Ber.NULL)));
+        Desk.dropped("a name of 17", 1, Ber.ask(1, Ber.GET,
                 Ber.pair(Ber.name(1, 3, 1, 1, 1, 1, 1, 1, 1, 1, 1, 1, 1, 1, 1, 1, 1), Ber.NULL)));
-        answered("a name of 16", Ber.ask(1, Ber.GET, Ber.pair(longest, Ber.NULL)),
+        Desk.answered("a name of 16", Ber.ask(1, Ber.GET, Ber.pair(longest, Ber.NULL)),
                 Ber.answer(1, 0, 0, Ber.pair(longest, Ber.NO_OBJECT)));
     }
 
     private static void firstCauseCounts() {
         byte[] broken = Ber.octets(160, 1);
-        dropped("version 2 before what is broken", 2, Ber.field(48, Ber.integer(2), broken));
-        dropped("no community before what is broken", 3, Ber.field(48, VERSION, Ber.text("no"), broken));
-        dropped("version 2 before no community", 2, Ber.field(48, Ber.integer(2), Ber.text("no"), broken));
-        dropped("the outer length before version 2", 1, Ber.join(Ber.field(48, Ber.integer(2), broken), broken));
-        dropped("broken behind a community", 1, Ber.field(48, VERSION, PUB, broken));
-        dropped("nothing behind a community", 1, Ber.field(48, VERSION, PUB));
-        dropped("nothing behind another community", 3, Ber.field(48, VERSION, Ber.text("no")));
-        dropped("nothing behind version 2", 2, Ber.field(48, Ber.integer(2)));
+        Desk.dropped("version 2 before what is broken", 2, Ber.field(48, Ber.integer(2), broken));
+        Desk.dropped("no community before what is broken", 3, Ber.field(48, VERSION, Ber.text("no"), broken));
+        Desk.dropped("version 2 before no community", 2, Ber.field(48, Ber.integer(2), Ber.text("no"), broken));
+        Desk.dropped("the outer length before version 2", 1, Ber.join(Ber.field(48, Ber.integer(2), broken), broken));
+        Desk.dropped("broken behind a community", 1, Ber.field(48, VERSION, PUB, broken));
+        Desk.dropped("nothing behind a community", 1, Ber.field(48, VERSION, PUB));
+        Desk.dropped("nothing behind another community", 3, Ber.field(48, VERSION, Ber.text("no")));
+        Desk.dropped("nothing behind version 2", 2, Ber.field(48, Ber.integer(2)));
     }
 }

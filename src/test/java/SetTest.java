@@ -24,6 +24,14 @@ public final class SetTest {
         orderOfDoing();
         goingRows();
         twoTables();
+        boundsOfTexts();
+        boundsOfNumbers();
+        boundsTurnedRound();
+        statusOfEachNumber();
+        indexesOfEachColumn();
+        eachBeforeTheNext();
+        sixteenRowsAtOnce();
+        takenAwayByRowsBefore();
         Check.finish();
     }
 
@@ -401,5 +409,182 @@ public final class SetTest {
         Check.due("20: its value", x.told(11, 101), 8);
         Check.due("20: its status", x.told(12, 101), 2);
         Check.due("20: the status of the first", x.told(Desk.COLUMN_STATUS, 101), 1);
+    }
+
+    private static Desk withScalar(int tag, long least, long most) {
+        Desk desk = new Desk();
+        desk.community("pub", true);
+        desk.scalar(tag, 2, least, most, 1, 3);
+        return desk;
+    }
+
+    private static void fits(String what, int tag, long least, long most, byte[] value) {
+        done(what, withScalar(tag, least, most), pair(value, 1, 3, 0));
+    }
+
+    private static void misfits(String what, int error, int tag, long least, long most, byte[] value) {
+        refused(what, withScalar(tag, least, most), withScalar(tag, least, most), error, 1, pair(value, 1, 3, 0));
+    }
+
+    /** "8 of a TEXT, too few octets or too many": bounds that leave one length, none of them, or all. */
+    private static void boundsOfTexts() {
+        for (int octets : new int[] {0, 1, 20, 40}) {
+            fits("a text of just " + octets, 4, octets, octets, Ber.text("t".repeat(octets)));
+            if (octets > 0) {
+                misfits("a text, too few by one", 8, 4, octets, octets, Ber.text("t".repeat(octets - 1)));
+            }
+            if (octets < 40) {
+                misfits("a text, too many by one", 8, 4, octets, octets, Ber.text("t".repeat(octets + 1)));
+            }
+            fits("a text of any length", 4, Long.MIN_VALUE, Long.MAX_VALUE, Ber.text("t".repeat(octets)));
+            misfits("a text, bounds above 40", 8, 4, 41, 100, Ber.text("t".repeat(octets)));
+            misfits("a text, bounds below 0", 8, 4, -100, -1, Ber.text("t".repeat(octets)));
+        }
+    }
+
+    /** "10 an INTEGER, GAUGE or TICKS out of its bounds": bounds that leave one number, none of them, or all. */
+    private static void boundsOfNumbers() {
+        for (long v : new long[] {-2147483648L, -1, 0, 1, 2147483647L}) {
+            fits("an integer of just " + v, 2, v, v, Ber.integer(v));
+            fits("any integer", 2, Long.MIN_VALUE, Long.MAX_VALUE, Ber.integer(v));
+            misfits("an integer, bounds above all", 10, 2, 2147483648L, Long.MAX_VALUE, Ber.integer(v));
+            misfits("an integer, bounds below all", 10, 2, Long.MIN_VALUE, -2147483649L, Ber.integer(v));
+            if (v < 2147483647L) {
+                misfits("an integer, one above", 10, 2, v, v, Ber.integer(v + 1));
+            }
+            if (v > -2147483648L) {
+                misfits("an integer, one below", 10, 2, v, v, Ber.integer(v - 1));
+            }
+        }
+        for (int tag = 66; tag <= 67; tag++) {
+            for (long v : new long[] {0, 1, 2147483647L, 2147483648L, MOST}) {
+                fits("just " + v + " of " + tag, tag, v, v, Ber.number(tag, v));
+                fits("any of " + tag, tag, Long.MIN_VALUE, Long.MAX_VALUE, Ber.number(tag, v));
+                misfits("bounds above all of " + tag, 10, tag, MOST + 1, Long.MAX_VALUE, Ber.number(tag, v));
+                misfits("bounds below all of " + tag, 10, tag, Long.MIN_VALUE, -1, Ber.number(tag, v));
+                if (v < MOST) {
+                    misfits("one above, of " + tag, 10, tag, v, v, Ber.number(tag, v + 1));
+                }
+                if (v > 0) {
+                    misfits("one below, of " + tag, 10, tag, v, v, Ber.number(tag, v - 1));
+                }
+            }
+        }
+    }
+
+    /** column() does not refuse bounds of which the least is above the most: no value is within them. */
+    private static void boundsTurnedRound() {
+        for (long v : new long[] {0, 4, 5, 6, 9}) {
+            Desk[] desks = new Desk[2];
+            for (int i = 0; i < 2; i++) {
+                desks[i] = new Desk();
+                desks[i].community("pub", true);
+                desks[i].table(1, 3);
+                desks[i].agent.column(0, 1, 2, 2, 6, 4);
+                desks[i].agent.row(0, 1, true);
+            }
+            refused("bounds turned round", desks[0], desks[1], 10, 1, pair(Ber.integer(v), 1, 3, 1, 1));
+        }
+    }
+
+    /** "of a STATUS another one than 1, 2, 4, 5, 6": each number for a ROW that is there, and for one that is not. */
+    private static void statusOfEachNumber() {
+        int[] ofThere = {10, 0, 0, 10, 12, 12, 0, 10, 10};
+        int[] ofNone = {10, 12, 12, 10, 0, 0, 0, 10, 10};
+        for (int v = 0; v <= 8; v++) {
+            statusIs(5, v, ofThere[v]);
+            statusIs(6, v, ofNone[v]);
+        }
+        for (long v : new long[] {-2147483648L, -1, 256 + 4, 65536 + 1, 2147483647L}) {
+            refused("a status of " + v, 10, 1, status(5, v));
+        }
+    }
+
+    private static void statusIs(int index, int v, int error) {
+        if (error == 0) {
+            done("a status of " + v, withRows(), status(index, v));
+        } else {
+            refused("a status of " + v, error, 1, status(index, v));
+        }
+    }
+
+    /** "11 what is behind the object's name is not 0 (of a scalar), or not one number 1 .. 2^31 - 1". */
+    private static void indexesOfEachColumn() {
+        for (long index : new long[] {1, 2147483647L}) {
+            Desk desk = done("the index " + index, withRows(), number(index, 7), word(index, "w"), status(index, 4));
+            Check.due("20: of the index " + index, desk.agent.told(Desk.COLUMN_INTEGER, (int) index), 7);
+            Check.due("19: a row more", desk.agent.rows(0), 3);
+        }
+        for (long index : new long[] {0, 2147483648L, MOST}) {
+            refused("the index " + index + " of a number", 11, 1, number(index, 7), status(index, 4));
+            refused("the index " + index + " of a text", 11, 1, word(index, "w"));
+            for (int v : new int[] {1, 2, 4, 5, 6}) {
+                refused("the index " + index + " of a status", 11, 1, status(index, v));
+            }
+        }
+        for (long behind : new long[] {1, 2147483648L, MOST}) {
+            refused("a scalar's " + behind, 11, 1, pair(Ber.integer(3), 1, 3, 6, 1, 2, behind));
+        }
+    }
+
+    /** "by the first of these": of two ERRORS that fit a row, the one named before. */
+    private static void eachBeforeTheNext() {
+        byte[] noObject = pair(Ber.integer(1), 1, 3, 9);
+        refused("6 before 17", hiding(1, 3, 9), hiding(1, 3, 9), 6, 1, noObject);
+        refused("6 before 11", hiding(1, 3, 6, 1), hiding(1, 3, 6, 1), 6, 1, pair(Ber.integer(1), 1, 3, 6, 1, 2, 7));
+        refused("6 before 18", hiding(1, 3, 6, 2), hiding(1, 3, 6, 2), 6, 1, number(6, 1));
+        refused("6 before 12", hiding(1, 3, 6, 2), hiding(1, 3, 6, 2), 6, 1, status(5, 4));
+        refused("17 before 7", 17, 1, pair(Ber.text("a"), 1, 3, 6, 2, 1, 3, 5));
+        refused("17 before 11", 17, 1, pair(Ber.number(65, 1), 1, 3, 6, 2, 1, 3, 0));
+        refused("17 before 18", 17, 1, pair(Ber.number(65, 1), 1, 3, 6, 2, 1, 3, 6));
+        refused("7 before 10", 7, 1, pair(Ber.number(66, 999), INTEGER));
+        refused("7 before 18", 7, 1, pair(Ber.text("a"), 1, 3, 6, 2, 1, 1, 6));
+        refused("7 before 12", 7, 1, pair(Ber.number(66, 4), 1, 3, 6, 2, 1, 4, 5));
+        refused("10 before 11 of a status", 10, 1, status(0, 3));
+        refused("11 before 12", 11, 1, status(0, 1));
+        refused("11 before 13", withMany(16), withMany(16), 11, 1, status(0, 4));
+        refused("12 before 13 by a row before", withMany(15), withMany(15), 12, 2, status(6, 4), status(6, 5));
+    }
+
+    /** "13 a STATUS of 4 or 5, and there are 16 ROWS (those that rows before make are counted as there": all by one SET. */
+    private static void sixteenRowsAtOnce() {
+        byte[][] sixteen = new byte[16][];
+        byte[][] seventeen = new byte[17][];
+        for (int i = 0; i < 17; i++) {
+            seventeen[i] = status(i + 1, 4 + i % 2);
+            if (i < 16) {
+                sixteen[i] = seventeen[i];
+            }
+        }
+        TreeAgent x = done("16 rows at once", Desk.usual(), sixteen).agent;
+        Check.due("19: 16 rows at once", x.rows(0), 16);
+        for (int i = 0; i < 16; i++) {
+            Check.due("20: the status of " + (i + 1), x.told(Desk.COLUMN_STATUS, i + 1), 1 + i % 2);
+        }
+        Desk one = Desk.usual();
+        refused("17 rows at once", one, Desk.usual(), 13, 17, seventeen);
+        Check.due("19: none of them is made", one.agent.rows(0), 0);
+        refused("a second one, of 15", withMany(15), withMany(15), 13, 2, status(6, 4), status(7, 5));
+        refused("one of 16", withMany(16), withMany(16), 13, 1, status(6, 5));
+    }
+
+    /** "those that they take away, too)": they are counted as there. */
+    private static void takenAwayByRowsBefore() {
+        refused("one goes, one comes", withMany(16), withMany(16), 13, 2, status(101, 6), status(6, 5));
+        refused("all go, one comes", withMany(16), withMany(16), 13, 17, gone(16, status(6, 4)));
+        Desk desk = done("of 15 all go, one comes", withMany(15), gone(15, status(6, 4)));
+        Check.due("19: the one that came", desk.agent.rows(0), 1);
+        Check.due("20: its status", desk.agent.told(Desk.COLUMN_STATUS, 6), 1);
+        refused("made, gone by a row before, and made again", withMany(15), withMany(15), 13, 3, status(6, 4), status(6, 6),
+                status(7, 4));
+    }
+
+    private static byte[][] gone(int rows, byte[] last) {
+        byte[][] all = new byte[rows + 1][];
+        for (int i = 0; i < rows; i++) {
+            all[i] = status(101 + i, 6);
+        }
+        all[rows] = last;
+        return all;
     }
 }
