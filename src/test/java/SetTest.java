@@ -32,6 +32,8 @@ public final class SetTest {
         eachBeforeTheNext();
         sixteenRowsAtOnce();
         takenAwayByRowsBefore();
+        otherRowsBefore();
+        rowsOfTheQuestionBefore();
         Check.finish();
     }
 
@@ -586,5 +588,41 @@ public final class SetTest {
         }
         all[rows] = last;
         return all;
+    }
+
+    /** Only a STATUS of 4 or 5 makes a ROW that is counted: no other row before it does. */
+    private static void otherRowsBefore() {
+        Desk desk = withMany(15);
+        desk.table(1, 3, 6, 2, 2);
+        desk.agent.status(1, 1);
+        done("other rows before a 16th", desk, pair(Ber.text("a"), TEXT), pair(Ber.integer(4), INTEGER), number(101, 4),
+                word(102, "w"), status(103, 1), status(104, 6), status(77, 6), pair(Ber.integer(4), 1, 3, 6, 2, 2, 1, 6),
+                status(6, 4));
+        Check.due("19: one came, one went", desk.agent.rows(0), 15);
+        Check.due("19: of the other table", desk.agent.rows(1), 1);
+    }
+
+    /** A question is by itself: rows that an earlier and longer one had are not done, and make no ROW. */
+    private static void rowsOfTheQuestionBefore() {
+        byte[] text = pair(Ber.text("a"), TEXT);
+        byte[] value = pair(Ber.integer(42), INTEGER);
+        Desk desk = withRows();
+        desk.ask(Ber.ask(1, Ber.GET, text, value, status(6, 4), status(5, 6)));
+        done("one row behind four that were asked for", desk, text);
+        desk.ask(Ber.ask(1, Ber.GET, text, status(6, 4), status(5, 6)));
+        done("one row behind three that were asked for", desk, text);
+        Check.due("20: nothing else is set", desk.agent.told(Desk.SCALAR_INTEGER, 0), 0);
+        Check.due("19: no row is made or gone", desk.agent.rows(0), 2);
+        Desk[] twins = {withRows(), withRows()};
+        for (Desk twin : twins) {
+            twin.feed(Ber.octets(1)).agent.question();
+            twin.feed(Ber.join(Ber.ask(1, Ber.SET, number(6, 3), status(6, 4)), Ber.octets(0))).agent.question();
+            twin.feed(Ber.ask(2, Ber.SET, number(6, 3), status(6, 4))).agent.question();
+        }
+        refused("a ROW that only a dropped question would make", twins[0], twins[1], 18, 1, number(6, 3));
+        Desk asked = withRows();
+        asked.ask(Ber.ask(1, Ber.GET, number(6, 3), status(6, 4)));
+        Check.due("16: SET, a ROW that only a GET had", asked.ask(Ber.ask(1, Ber.SET, number(6, 3))),
+                Ber.answer(1, 18, 1, number(6, 3)));
     }
 }
