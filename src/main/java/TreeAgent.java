@@ -463,7 +463,7 @@ public final class TreeAgent {
                 return;
             }
             Value value = valueFor(asked.name);
-            if (message.version == 0 && (value == noInstance || value == noObject)) {
+            if (message.version == 0 && value.isMissing()) {
                 reply.fail(ERROR_NO_SUCH_NAME, i + 1);
                 return;
             }
@@ -492,7 +492,7 @@ public final class TreeAgent {
                 return;
             }
             Value value = nextAfter(asked.name);
-            if (message.version == 0 && value == end) {
+            if (message.version == 0 && value.isMissing()) {
                 reply.fail(ERROR_NO_SUCH_NAME, i + 1);
                 return;
             }
@@ -543,7 +543,7 @@ public final class TreeAgent {
                 return;
             }
             reply.tell(found, value);
-            endsInARow = value == end ? endsInARow + 1 : 0;
+            endsInARow = value.isMissing() ? endsInARow + 1 : 0;
             boolean roundIsDone = i >= firsts && others > 0 && (i - firsts + 1) % others == 0;
             if (roundIsDone && endsInARow >= others) {
                 return;
@@ -733,6 +733,11 @@ public final class TreeAgent {
 
         boolean isOfParts() {
             return tag == TEXT || tag == NAME;
+        }
+
+        /** Whether it only tells that there is no value. */
+        boolean isMissing() {
+            return tag == NO_OBJECT || tag == NO_INSTANCE || tag == END;
         }
 
         void becomeEmpty(int newTag) {
